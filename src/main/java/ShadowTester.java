@@ -557,6 +557,8 @@ public final class ShadowTester {
 
         final Item[] items = new Item[ITEMS];
         int itemCount = 0;
+        /** The ITEMS of each AREA, as bits. */
+        final int[] ofAreas = new int[AREAS];
 
         boolean on = false;
         final Weights weights = new Weights();
@@ -586,6 +588,7 @@ public final class ShadowTester {
             testees = other.testees;
             for (int i = 0; i < ITEMS; i++) items[i].copyFrom(other.items[i]);
             itemCount = other.itemCount;
+            System.arraycopy(other.ofAreas, 0, ofAreas, 0, AREAS);
             on = other.on;
             weights.copyFrom(other.weights);
             System.arraycopy(other.asked, 0, asked, 0, ITEMS);
@@ -616,6 +619,7 @@ public final class ShadowTester {
             if (itemCount >= ITEMS) return FULL;
             items[itemCount].become(kind, area, height, slope);
             items[itemCount].held = on;
+            ofAreas[area] |= 1 << itemCount;
             return itemCount++;
         }
 
@@ -714,8 +718,7 @@ public final class ShadowTester {
 
         private boolean keepsQuotas(int bits) {
             for (int a = 0; a < AREAS; a++) {
-                int sum = 0;
-                for (int i = 0; i < itemCount; i++) if ((bits >> i & 1) == 1 && items[i].area == a) sum++;
+                int sum = Integer.bitCount(bits & ofAreas[a]);
                 if (sum < least[a] || sum > most[a]) return false;
             }
             return true;

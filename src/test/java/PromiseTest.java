@@ -453,6 +453,17 @@ public final class PromiseTest {
         due("would, 15 times", y.would(0, 1, 0), NO);
         due("would, 15 times", y.would(0, 1, 1), NO);
         due("would, but S is none", y.would(0, 0, 0), NO);
+        // great by the product alone: level 0 goes into no S
+        ShadowTester z = new ShadowTester();
+        priors(z, 1999999973, 0, 0, 0, 0, 0, 0, 0, 1);
+        for (int i = 0; i < 8; i++) z.item(0, 0, 8, 3);
+        z.begin(0);
+        for (int i = 0; i < 8; i++) z.answer(i, 0);
+        due("MEAN above", z.now(0, 0), 8 * 16777216L);
+        due("MEAN below", z.now(0, 1), 1999999973L * 2562890625L + 16777216L);
+        due("would, 15 times", z.would(0, 0, 0), NO);
+        due("would, 15 times", z.would(0, 0, 1), NO);
+        due("would, right: 1 time and 8 times", z.would(0, 1, 0), 64 * 16777216L);
     }
 
     // 19: shadow
@@ -627,6 +638,14 @@ public final class PromiseTest {
         due("NARROW 30", x.says(2), 1);
         x.set(12, 29);
         due("NARROW 29", x.says(2), 0);
+        x.set(12, 0);
+        due("NARROW 0", x.says(2), 0);
+        ShadowTester one = four();
+        priors(one, 0, 0, 7, 0, 0, 0, 0, 0, 0);
+        one.begin(0);
+        due("NARROW 0, a SPREAD of 0", one.says(2), 1);
+        one.set(11, 99);
+        due("SURE 99, one LEVEL", one.says(1), 1);
         // sums of WEIGHT times TELLS, heights 1, 3, 5, 7: 3 * 60 + 28; 3 * 28 + 60; 3 * 15 + 60; 3 * 15 + 28; ALL is 4
         x.set(13, 52);
         due("POOR 52: 208 is not below 208", x.says(3), 0);
@@ -670,6 +689,13 @@ public final class PromiseTest {
         due("CLEAR 3", x.says(4), 0);
         x.set(14, 99);
         due("CLEAR 99", x.says(4), 0);
+        // the MODE as this one began, not as another one did
+        x.end();
+        x.prior(3, 2);
+        x.begin(0);
+        x.answer(0, 1);
+        x.set(14, 1);
+        due("CLEAR 1, another test", x.says(4), 1);
     }
 
     static void greatRules() {
