@@ -1,42 +1,5 @@
 /** Promise by promise: ordinary calls, the edges that the document names, and wrong ones; what is due was made by hand. */
-public final class PromiseTest {
-    static final int NONE = -1, BAD = -2, STATE = -3, FULL = -4, GREAT = -7, NO_WAY = -8;
-    static final int MISSING = -11, OUTSIDE = -12, UNLIKE = -13, BELOW = -14;
-    static final long NO = Long.MIN_VALUE;
-    static final int LOW = Integer.MIN_VALUE, HIGH = Integer.MAX_VALUE;
-
-    static int promise = 0;
-    static int checked = 0;
-    static int wrong = 0;
-
-    static void due(String what, long got, long want) {
-        checked++;
-        if (got == want) return;
-        wrong++;
-        System.out.println("promise " + promise + ": " + what + " answered " + got + ", due is " + want);
-    }
-
-    static ShadowTester fresh(int... items) {
-        ShadowTester x = new ShadowTester();
-        for (int i = 0; i + 3 < items.length; i += 4) x.item(items[i], items[i + 1], items[i + 2], items[i + 3]);
-        return x;
-    }
-
-    /** Four PLAIN items of slope 1, heights 1, 3, 5, 7, areas 0, 0, 1, 2. */
-    static ShadowTester four() {
-        return fresh(0, 0, 1, 1, 0, 0, 3, 1, 0, 1, 5, 1, 0, 2, 7, 1);
-    }
-
-    static void priors(ShadowTester x, int... v) {
-        for (int g = 0; g < 9; g++) if (v[g] > 0) x.prior(g, v[g]);
-        for (int g = 0; g < 9; g++) if (v[g] == 0) x.prior(g, 0);
-    }
-
-    static void sheetOf(ShadowTester x, int sheet, int sort, int... v) {
-        x.sheet(sheet, sort, v.length);
-        for (int i = 0; i < v.length; i++) x.put(sheet, i, v[i]);
-    }
-
+public final class PromiseTest extends Bench {
     // 1: a new object
     static void newObject() {
         ShadowTester x = new ShadowTester();
@@ -740,7 +703,9 @@ public final class PromiseTest {
         for (int[] b : bad) due("drawn(1, " + b[0] + ", " + b[1] + ")", x.drawn(1, b[0], b[1]), BAD);
         due("drawn(1, 4, 0)", x.drawn(1, 4, 0), 4);
         for (int seed : new int[] {0, 1, -1, 12345, HIGH, LOW}) {
-            for (int g = 0; g < 9; g++) due("drawn(" + seed + ", " + g + ", 1)", x.drawn(seed, g, 1), drawnByHand(x, seed, g));
+            ShadowTester y = four();
+            y.begin(0);
+            for (int g = 0; g < 9; g++) due("drawn(" + seed + ", " + g + ", 1)", y.drawn(seed, g, 1), drawnByHand(y, seed, g));
         }
         x.set(0, 2);
         due("drawn, SPAN 2", x.drawn(1, 4, 0), 2);
@@ -757,12 +722,12 @@ public final class PromiseTest {
         due("drawn, by a rule", x.drawn(1, 4, 0), 1);
         due("count(2), in thought", x.count(2), 2);
         due("told(2, 5), in thought", x.told(2, 5), 0);
-        ShadowTester y = greatOne();
-        due("drawn, the next is great", y.drawn(1, 4, 0), 0);
-        y.quota(1, 0, 0);
-        due("drawn, the next isn't", y.drawn(1, 4, 0), 1);
-        y.rules(4);
-        due("drawn, a rule is great", y.drawn(1, 4, 0), 0);
+        ShadowTester great = greatOne();
+        due("drawn, the next is great", great.drawn(1, 4, 0), 0);
+        great.quota(1, 0, 0);
+        due("drawn, the next isn't", great.drawn(1, 4, 0), 1);
+        great.rules(4);
+        due("drawn, a rule is great", great.drawn(1, 4, 0), 0);
     }
 
     /** The MODE, by the calls themselves, laid back behind it. */
@@ -1081,41 +1046,40 @@ public final class PromiseTest {
     }
 
     public static void main(String[] args) {
-        promise = 1; newObject();
-        promise = 2; prior();
-        promise = 3; quota();
-        promise = 4; item();
-        promise = 5; ease();
-        promise = 6; set();
-        promise = 7; rules();
-        promise = 8; told();
-        promise = 9; by();
-        promise = 10; taken();
-        promise = 11; begin();
-        promise = 12; answer();
-        promise = 13; end();
-        promise = 14; answered();
-        promise = 15; weight();
-        promise = 16; now();
-        promise = 17; mode();
-        promise = 18; would();
-        promise = 19; shadow();
+        at("promise 1"); newObject();
+        at("promise 2"); prior();
+        at("promise 3"); quota();
+        at("promise 4"); item();
+        at("promise 5"); ease();
+        at("promise 6"); set();
+        at("promise 7"); rules();
+        at("promise 8"); told();
+        at("promise 9"); by();
+        at("promise 10"); taken();
+        at("promise 11"); begin();
+        at("promise 12"); answer();
+        at("promise 13"); end();
+        at("promise 14"); answered();
+        at("promise 15"); weight();
+        at("promise 16"); now();
+        at("promise 17"); mode();
+        at("promise 18"); would();
+        at("promise 19"); shadow();
         greatShadow();
-        promise = 20; next();
-        promise = 21; stops();
-        promise = 22; says();
-        promise = 23; drawn();
-        promise = 24; chance();
-        promise = 25; tells();
-        promise = 26; film();
-        promise = 27; image();
-        promise = 28; imageOfTest();
-        promise = 29; count();
-        promise = 30; sheet();
-        promise = 31; put();
-        promise = 32; copy();
-        promise = 33; load();
-        System.out.println(checked + " answers by promises, " + wrong + " not as due");
-        if (wrong > 0) System.exit(1);
+        at("promise 20"); next();
+        at("promise 21"); stops();
+        at("promise 22"); says();
+        at("promise 23"); drawn();
+        at("promise 24"); chance();
+        at("promise 25"); tells();
+        at("promise 26"); film();
+        at("promise 27"); image();
+        at("promise 28"); imageOfTest();
+        at("promise 29"); count();
+        at("promise 30"); sheet();
+        at("promise 31"); put();
+        at("promise 32"); copy();
+        at("promise 33"); load();
+        close("promises");
     }
 }
